@@ -42,7 +42,7 @@ public final class PromisesTest {
         CHECK.due("promise " + promise + ": " + what, got, want);
     }
 
-    /** Word k of the tape that feedTwenty(x, salt) lays. */
+    /** Word k of the tape that feed(x, salt, ..) lays. */
     private static int word(int salt, int k) {
         return (k + 1) * 0x9E3779B1 + salt * 0x85EBCA77;
     }
@@ -157,6 +157,10 @@ public final class PromisesTest {
         }
         for (int i = 0; i < 4; i++) {
             due("leaf", x.leaf(i), 0);
+        }
+        byte[] root = new Rfc(2, bytes(3, 96)).root();
+        for (int k = 0; k < 32; k++) {
+            due("the root of the new keys", x.node(2, 0, k), root[k] & 255);
         }
         due("the first leaf again", x.sign(0), 0);
         dueSlot("after it", x, 1, 1, 3, 1);
@@ -427,9 +431,12 @@ public final class PromisesTest {
         for (int k : new int[] {0, 1, 2, 3, 4, 5, 6, 7, 1000, 2211}) {
             int old = x.out(k);
             due("alter", x.alter(k, 0x5A), old ^ 0x5A);
-            due("the lowest 8 bits alone", x.alter(k, 0xFFFFFF00), old ^ 0x5A);
+            due("the lowest 8 bits alone", x.alter(k, 0x12345600), old ^ 0x5A);
             due("and all of them", x.alter(k, -1), old ^ 0x5A ^ 255);
             due("back", x.alter(k, 0xA5), old);
+        }
+        for (int k = 0; k < 2212; k++) {
+            due("no other byte is altered", x.alter(k, 0), x.out(k));
         }
     }
 

@@ -22,7 +22,7 @@ public final class RandomRunsTest {
 
     public static void main(String[] args) {
         Check check = new Check();
-        for (long seed = 1; seed <= 160 && !check.isWrong(); seed++) {
+        for (long seed = 1; seed <= 100 && !check.isWrong(); seed++) {
             RandomRunsTest run = new RandomRunsTest(seed, check);
             if (seed % 4 != 0) {
                 run.feedKeys();
@@ -141,6 +141,7 @@ public final class RandomRunsTest {
     private void compareAll() {
         for (int k = -2; k < 2400; k++) {
             check.due(name + "out " + k, real.out(k), model.out(k));
+            check.due(name + "held " + k, real.alter(k, 0), model.alter(k, 0));
         }
         for (int k = -2; k < 30; k++) {
             check.due(name + "disk " + k, real.disk(k), model.disk(k));
