@@ -1,7 +1,7 @@
 /** Each promise of the document by itself: ordinary inputs, its edges, and wrong inputs. */
 public final class PromisesTest {
-    private static final int MIN = Integer.MIN_VALUE;
-    private static final int MAX = Integer.MAX_VALUE;
+    private static final int MIN = Bench.MIN;
+    private static final int MAX = Bench.MAX;
     private static final int[] WHOLE_SIZE = {0, 2212, 2244, 2276, 2308};
 
     private static final Check CHECK = new Check();
@@ -40,33 +40,6 @@ public final class PromisesTest {
 
     private static void due(String what, boolean got, boolean want) {
         CHECK.due("promise " + promise + ": " + what, got, want);
-    }
-
-    /** Word k of the tape that feed(x, salt, ..) lays. */
-    private static int word(int salt, int k) {
-        return (k + 1) * 0x9E3779B1 + salt * 0x85EBCA77;
-    }
-
-    private static void feed(LeafSigner x, int salt, int times) {
-        for (int t = 0; t < times; t++) {
-            int k = 5 * t;
-            x.feed(word(salt, k), word(salt, k + 1), word(salt, k + 2), word(salt, k + 3), word(salt, k + 4));
-        }
-    }
-
-    private static byte[] bytes(int salt, int n) {
-        byte[] row = new byte[n];
-        for (int k = 0; k < n; k++) {
-            row[k] = (byte) (word(salt, k / 4) >>> (24 - 8 * (k % 4)));
-        }
-        return row;
-    }
-
-    private static LeafSigner keyed(int height, int reserve, int salt) {
-        LeafSigner x = new LeafSigner(height, reserve);
-        feed(x, salt, 5);
-        due("keys", x.keys(), true);
-        return x;
     }
 
     private static void dueSlot(String what, LeafSigner x, int slot, int first, int limit, int again) {
@@ -115,18 +88,18 @@ public final class PromisesTest {
         promise = "3";
         LeafSigner x = new LeafSigner(2, 2);
         due("keys of nothing", x.keys(), false);
-        feed(x, 1, 4);
+        Bench.feed(x, 1, 4);
         due("keys of 80", x.keys(), false);
         due("nothing done: the tape", x.about(7), 80);
         due("nothing done: the state", x.about(0), 0);
         due("still never keyed", x.verify(0), -3);
-        x.feed(word(1, 20), word(1, 21), word(1, 22), word(1, 23), 77);
+        x.feed(Bench.word(1, 20), Bench.word(1, 21), Bench.word(1, 22), Bench.word(1, 23), 77);
         due("keys of 100", x.keys(), true);
         due("the tape is empty", x.about(7), 0);
         due("up", x.about(0), 1);
         due("next", x.about(1), 0);
         due("end", x.about(2), 0);
-        byte[] root = new Rfc(2, bytes(1, 96)).root();
+        byte[] root = Bench.rfc(2, 1).root();
         for (int k = 0; k < 32; k++) {
             due("root", x.node(2, 0, k), root[k] & 255);
         }
@@ -134,7 +107,7 @@ public final class PromisesTest {
 
     private static void keysAgain() {
         promise = "3";
-        LeafSigner x = keyed(2, 3, 2);
+        LeafSigner x = Bench.keyed(2, 3, 2);
         due("sign", x.sign(0), 0);
         x.hold();
         due("fall", x.fall(), true);
@@ -142,7 +115,7 @@ public final class PromisesTest {
         due("too few", x.keys(), false);
         due("still down", x.about(0), 2);
         due("still lost", x.leaf(1), 3);
-        feed(x, 3, 6);
+        Bench.feed(x, 3, 6);
         due("keys again", x.keys(), true);
         due("up", x.about(0), 1);
         due("the fuse stays", x.about(6), 40);
@@ -158,13 +131,13 @@ public final class PromisesTest {
         for (int i = 0; i < 4; i++) {
             due("leaf", x.leaf(i), 0);
         }
-        byte[] root = new Rfc(2, bytes(3, 96)).root();
+        byte[] root = Bench.rfc(2, 3).root();
         for (int k = 0; k < 32; k++) {
             due("the root of the new keys", x.node(2, 0, k), root[k] & 255);
         }
         due("the first leaf again", x.sign(0), 0);
         dueSlot("after it", x, 1, 1, 3, 1);
-        feed(x, 4, 5);
+        Bench.feed(x, 4, 5);
         due("keys while up", x.keys(), true);
         due("nothing reserved", x.about(2), 0);
     }
@@ -172,13 +145,13 @@ public final class PromisesTest {
     private static void signRefuses() {
         promise = "4";
         LeafSigner x = new LeafSigner(1, 1);
-        feed(x, 1, 1);
+        Bench.feed(x, 1, 1);
         due("off", x.sign(20), -3);
         due("off and too many", x.sign(21), -2);
         due("off and below 0", x.sign(-1), -2);
         due("the tape stays", x.about(7), 20);
-        x = keyed(1, 1, 5);
-        feed(x, 1, 1);
+        x = Bench.keyed(1, 1, 5);
+        Bench.feed(x, 1, 1);
         for (int n : new int[] {-1, MIN, 21, MAX}) {
             due("sign " + n, x.sign(n), -2);
         }
@@ -193,23 +166,23 @@ public final class PromisesTest {
 
     private static void signEmptiesTape() {
         promise = "4";
-        LeafSigner x = keyed(1, 2, 6);
-        feed(x, 1, 2);
+        LeafSigner x = Bench.keyed(1, 2, 6);
+        Bench.feed(x, 1, 2);
         due("sign", x.sign(7), 0);
         due("the tape at a leaf", x.about(7), 0);
         due("sign", x.sign(0), 1);
         int last = x.out(3);
-        feed(x, 1, 2);
+        Bench.feed(x, 1, 2);
         due("every leaf is released", x.sign(40), -4);
         due("the tape at -4", x.about(7), 0);
         due("OUT stays at -4", x.out(3), last);
         due("and has its size", x.about(8), 2212);
         due("still up", x.about(0), 1);
-        x = keyed(1, 1, 6);
+        x = Bench.keyed(1, 1, 6);
         due("sign", x.sign(0), 0);
         int random = x.out(4);
         x.fuse(5);
-        feed(x, 1, 3);
+        Bench.feed(x, 1, 3);
         due("it fell", x.sign(1), -5);
         due("the tape at -5", x.about(7), 0);
         due("OUT stays at -5", x.out(4), random);
@@ -221,7 +194,7 @@ public final class PromisesTest {
         promise = "4";
         for (int height = 1; height <= 4; height++) {
             for (int reserve = 1; reserve <= 8; reserve++) {
-                LeafSigner x = keyed(height, reserve, 7);
+                LeafSigner x = Bench.keyed(height, reserve, 7);
                 int leaves = 1 << height;
                 for (int i = 0; i < leaves; i++) {
                     due("sign", x.sign(0), i);
@@ -240,14 +213,14 @@ public final class PromisesTest {
     private static void signIsOfRfc() {
         promise = "4";
         for (int height = 1; height <= 4; height++) {
-            LeafSigner x = keyed(height, 3, 10 + height);
-            Rfc rfc = new Rfc(height, bytes(10 + height, 96));
+            LeafSigner x = Bench.keyed(height, 3, 10 + height);
+            Rfc rfc = Bench.rfc(height, 10 + height);
             int[] sizes = {0, 1, 3, 4, 55, 56, 63, 64, 119, 120, 127, 128, 183, 184, 199, 200};
             for (int i = 0; i < (1 << height); i++) {
                 int n = sizes[(i * 5 + height) % sizes.length];
-                feed(x, i, 10);
+                Bench.feed(x, i, 10);
                 due("sign", x.sign(n), i);
-                byte[] want = rfc.sign(i, bytes(i, n));
+                byte[] want = rfc.sign(i, Bench.bytes(i, n));
                 due("size", x.about(8), WHOLE_SIZE[height]);
                 for (int k = 0; k < want.length; k++) {
                     due("byte " + k + " of leaf " + i, x.out(k), want[k] & 255);
@@ -271,7 +244,7 @@ public final class PromisesTest {
         due("the old one stays", x.about(6), 999);
         due("none any more", x.fuse(LeafSigner.NONE), true);
         due("left", x.about(6), -1);
-        x = keyed(2, 1, 8);
+        x = Bench.keyed(2, 1, 8);
         x.fuse(3);
         x.fuse(30);
         due("sign with the later fuse", x.sign(0), 0);
@@ -289,7 +262,7 @@ public final class PromisesTest {
         promise = "5";
         LeafSigner x = new LeafSigner(2, 1);
         x.fuse(14);
-        feed(x, 8, 5);
+        Bench.feed(x, 8, 5);
         x.keys();
         due("left after keys", x.about(6), 14);
         due("sign", x.sign(0), 0);
@@ -313,7 +286,7 @@ public final class PromisesTest {
         promise = "5";
         for (int reserve = 1; reserve <= 8; reserve++) {
             for (int k = 0; k <= 60; k++) {
-                LeafSigner x = keyed(3, reserve, 9);
+                LeafSigner x = Bench.keyed(3, reserve, 9);
                 x.fuse(k);
                 boolean fell = false;
                 int last = -1;
@@ -345,12 +318,12 @@ public final class PromisesTest {
         LeafSigner x = new LeafSigner(3, 4);
         due("off", x.fall(), false);
         due("still off", x.about(0), 0);
-        x = keyed(3, 4, 12);
-        feed(x, 1, 1);
+        x = Bench.keyed(3, 4, 12);
+        Bench.feed(x, 1, 1);
         x.sign(0);
         x.hold();
         x.sign(0);
-        feed(x, 1, 2);
+        Bench.feed(x, 1, 2);
         due("fall", x.fall(), true);
         due("down", x.about(0), 2);
         due("next is gone", x.about(1), -1);
@@ -373,7 +346,7 @@ public final class PromisesTest {
         LeafSigner x = new LeafSigner(3, 3);
         due("off", x.rise(), false);
         due("still off", x.about(0), 0);
-        x = keyed(3, 3, 13);
+        x = Bench.keyed(3, 3, 13);
         due("up", x.rise(), false);
         due("still up", x.about(0), 1);
         x.fall();
@@ -400,7 +373,7 @@ public final class PromisesTest {
 
     private static void hold() {
         promise = "8";
-        LeafSigner x = keyed(2, 2, 14);
+        LeafSigner x = Bench.keyed(2, 2, 14);
         due("an empty OUT", x.hold(), 0);
         due("HELD", x.about(9), 0);
         x.sign(0);
@@ -420,7 +393,7 @@ public final class PromisesTest {
 
     private static void alter() {
         promise = "9";
-        LeafSigner x = keyed(1, 1, 15);
+        LeafSigner x = Bench.keyed(1, 1, 15);
         due("nothing held", x.alter(0, 1), -1);
         x.sign(0);
         due("still nothing held", x.alter(0, 1), -1);
@@ -446,16 +419,16 @@ public final class PromisesTest {
         due("never keys", x.verify(0), -3);
         due("never keys, too many", x.verify(1), -2);
         due("never keys, below 0", x.verify(-1), -2);
-        feed(x, 16, 5);
+        Bench.feed(x, 16, 5);
         x.keys();
         due("nothing held", x.verify(0), 0);
-        feed(x, 1, 10);
+        Bench.feed(x, 1, 10);
         for (int n : new int[] {-1, MIN, 201, MAX}) {
             due("verify " + n, x.verify(n), -2);
         }
         x.sign(150);
         x.hold();
-        feed(x, 1, 10);
+        Bench.feed(x, 1, 10);
         due("as signed", x.verify(150), 1);
         due("less", x.verify(149), 0);
         due("more", x.verify(151), 0);
@@ -468,14 +441,14 @@ public final class PromisesTest {
         x.sign(200);
         due("an empty tape", x.verify(0), 0);
         x.hold();
-        feed(x, 1, 10);
+        Bench.feed(x, 1, 10);
         due("the whole tape", x.verify(200), 1);
         due("but for a byte", x.verify(199), 0);
     }
 
     private static void verifyEveryByte() {
         promise = "10";
-        LeafSigner x = keyed(3, 8, 17);
+        LeafSigner x = Bench.keyed(3, 8, 17);
         for (int i = 0; i < 8; i++) {
             x.sign(0);
             x.hold();
@@ -491,14 +464,14 @@ public final class PromisesTest {
 
     private static void verifyOtherKeys() {
         promise = "10";
-        LeafSigner x = keyed(1, 2, 18);
+        LeafSigner x = Bench.keyed(1, 2, 18);
         x.sign(0);
         x.hold();
         due("its own keys", x.verify(0), 1);
-        feed(x, 19, 5);
+        Bench.feed(x, 19, 5);
         x.keys();
         due("other keys", x.verify(0), 0);
-        feed(x, 18, 5);
+        Bench.feed(x, 18, 5);
         x.keys();
         due("the first keys again", x.verify(0), 1);
         due("no leaf was used", x.leaf(0), 0);
@@ -508,7 +481,7 @@ public final class PromisesTest {
         promise = "11";
         LeafSigner x = new LeafSigner(2, 3);
         due("never keys", x.leaf(0), -1);
-        feed(x, 20, 5);
+        Bench.feed(x, 20, 5);
         x.keys();
         for (int i : new int[] {-1, MIN, 4, 16, MAX}) {
             due("leaf " + i, x.leaf(i), -1);
@@ -538,7 +511,7 @@ public final class PromisesTest {
 
     private static void about() {
         promise = "12";
-        LeafSigner x = keyed(4, 5, 21);
+        LeafSigner x = Bench.keyed(4, 5, 21);
         x.sign(0);
         x.sign(0);
         x.hold();
@@ -546,7 +519,7 @@ public final class PromisesTest {
         x.rise();
         x.sign(0);
         x.fuse(500);
-        feed(x, 1, 3);
+        Bench.feed(x, 1, 3);
         dueAbout(x, 1, 6, 10, 3, 3, 24, 500, 60, 2308, 2308, 4, 5);
         x.fall();
         dueAbout(x, 2, -1, -1, 3, 7, 24, 500, 60, 2308, 2308, 4, 5);
@@ -563,7 +536,7 @@ public final class PromisesTest {
 
     private static void disk() {
         promise = "13";
-        LeafSigner x = keyed(4, 1, 22);
+        LeafSigner x = Bench.keyed(4, 1, 22);
         for (int k : new int[] {-1, MIN, 24, MAX}) {
             due("disk " + k, x.disk(k), -1);
         }
@@ -593,8 +566,8 @@ public final class PromisesTest {
         LeafSigner x = new LeafSigner(3, 1);
         due("never keys", x.node(0, 0, 0), -1);
         for (int height = 1; height <= 4; height++) {
-            x = keyed(height, 1, 23);
-            Rfc rfc = new Rfc(height, bytes(23, 96));
+            x = Bench.keyed(height, 1, 23);
+            Rfc rfc = Bench.rfc(height, 23);
             for (int t = 0; t <= height; t++) {
                 int count = 1 << (height - t);
                 for (int i = 0; i < count; i++) {
@@ -620,10 +593,10 @@ public final class PromisesTest {
     private static void out() {
         promise = "15";
         for (int height = 1; height <= 4; height++) {
-            LeafSigner x = keyed(height, 2, 24);
+            LeafSigner x = Bench.keyed(height, 2, 24);
             due("empty", x.out(0), -1);
             x.sign(0);
-            byte[] want = new Rfc(height, bytes(24, 96)).sign(0, new byte[0]);
+            byte[] want = Bench.rfc(height, 24).sign(0, new byte[0]);
             int size = WHOLE_SIZE[height];
             for (int k = 0; k < size; k++) {
                 due("out " + k, x.out(k), want[k] & 255);

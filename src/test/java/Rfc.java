@@ -108,6 +108,11 @@ final class Rfc {
         return Arrays.equals(node, root());
     }
 
+    /** What leaf i signs of a message: 64 digits, and behind them the three of their sum. */
+    int[] messageDigits(int i, byte[] m) {
+        return digits(messageHash(prf(p, toByte(i, 32)), i, m));
+    }
+
     /** Algorithm 9, with the stack. */
     private byte[] treeHash(int start, int t) {
         Deque<byte[]> stack = new ArrayDeque<>();
