@@ -41,6 +41,7 @@ public final class MachineEdgesTest {
     }
 
     private void falling() {
+        edges.edge("What it is", "no leaf is used twice, wherever the machine falls", this::noLeafTwice);
         edges.edge("PART 2", "A machine that falls is DOWN: what it had but the disk and the KEYS is gone",
             this::fallenHasDiskAndKeys);
         edges.edge("PART 2", "leaves that were reserved (below END) and not released are lost from then on",
@@ -249,6 +250,31 @@ public final class MachineEdgesTest {
         }
         edges.due("no leaf", x.sign(0), -4);
         edges.due("NEXT stays behind the last", x.about(1), 4);
+    }
+
+    /** It falls by a fuse at each byte, then by itself behind each leaf, and rises whenever it is DOWN. */
+    private void noLeafTwice() {
+        for (int reserve = 1; reserve <= 4; reserve++) {
+            for (int k = 0; k <= 48; k++) {
+                LeafSigner x = Bench.keyed(2, reserve, 32);
+                x.fuse(k);
+                int last = -1;
+                for (int call = 0; call < 8; call++) {
+                    int leaf = x.sign(0);
+                    if (leaf >= 0) {
+                        edges.due("a leaf above " + last + ", fuse " + k, leaf > last, true);
+                        edges.due("it is the one in OUT", x.out(3), leaf);
+                        last = leaf;
+                    }
+                    if (call == k % 5) {
+                        x.fall();
+                    }
+                    x.rise();
+                }
+                edges.due("no leaf is left", x.sign(0), -4);
+                edges.due("each is released or lost", x.about(3) + x.about(4), 4);
+            }
+        }
     }
 
     private void fallenHasDiskAndKeys() {
